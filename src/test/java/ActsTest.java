@@ -30,6 +30,7 @@ public final class ActsTest {
         CHECK.due("fay's other one", 3, x.man(4, 4));
         CHECK.due("bob's kin", 1, x.man(1, 6));
         CHECK.due("eve's kin", 0, x.man(3, 6));
+        CHECK.due("kin told of one ahead", 14, Check.made("man m 1;man n 1;man o 1;man p 1;kin m n;kin m p;kin o m;").man(0, 6));
         CHECK.dueThrow("man 5", () -> x.man(5, 0));
         CHECK.dueThrow("man -1", () -> x.man(-1, 0));
         CHECK.dueThrow("man 0, 8", () -> x.man(0, 8));
@@ -220,6 +221,12 @@ public final class ActsTest {
         x.turn(1, 0, 1);
         CHECK.due("all with him are wet", 31, x.now(5));
         CHECK.due("as one of them says", 1, x.man(4, 3));
+        OpinionFerry y = Check.made("slack 9;ask a;man m 1;man n 1;man o 1;");
+        y.cross(3);
+        y.turn(0, 0, 1);
+        y.cross(1);
+        y.turn(0, 0, 2);
+        CHECK.due("who is wet stays so", 7, y.now(5));
     }
 
     private static void undos() {

@@ -99,6 +99,12 @@ public final class CrewsTest {
         CHECK.due("by c alone all can go", 2, z.best());
         CHECK.due("in one trip", 1, z.trips(2));
         CHECK.due("by b never", -1, z.trips(1));
+        // by a the three go together alone: p and q, p back, the three, q back, p and q
+        OpinionFerry w = Check.made("seats 3;ask a;ask b;man m 1 a yes 1;man n 1 a yes 1;man o 1 a no 2;man p 1;man q 1;");
+        CHECK.due("by a", 5, w.trips(0));
+        CHECK.due("p and q first", 24, w.next());
+        CHECK.due("by b", 3, w.trips(1));
+        CHECK.due("the fewest", 1, w.best());
     }
 
     private static void foesStayApart() {

@@ -106,6 +106,10 @@ public final class FerryTextTest {
         bad(TWO + "kin m n;kin m n;", 30, 3);
         bad(TWO + "kin m n;kin n m;", 30, 3);
         bad(TWO + "kin n n;", 22, 3);
+        bad(TWO + "kin m z;", 22, 3);
+        bad(TWO + "kin z m;", 20, 3);
+        bad(TWO + "child m z;", 24, 3);
+        bad(TWO + "child z m;", 22, 3);
     }
 
     private static void tooMany() {
@@ -169,6 +173,15 @@ public final class FerryTextTest {
         CHECK.due("his thought", 0, x.thinks(0, 0));
         CHECK.due("no SENTENCE", -1, x.said(-1));
         CHECK.due("nothing to undo", -1, x.undo());
+        x.lie(0, 0, 3);
+        x.cross(1);
+        CHECK.due("all that was told once is told anew", 7,
+                Check.ferry(x, "seats 2;slack 3;man m 1;man n 1;kin m n;child m n;ask a;"));
+        CHECK.due("and once more", 4, Check.ferry(x, "seats 1;man m 1;man n 1;ask a;"));
+        CHECK.due("the slack without", 0, x.count(3));
+        CHECK.due("no kin", 0, x.count(4) + x.man(0, 6));
+        CHECK.due("no child", -1, x.man(0, 4));
+        CHECK.due("no lies", 0, x.man(0, 7));
         CHECK.due("an empty one", 0, x.ferry());
         CHECK.due("no raised ASK", -1, x.now(1));
         CHECK.due("the seats without", 4, x.count(2));

@@ -7,12 +7,18 @@ final class Check {
 
     private int wrong;
     private int asked;
+    private String words = "";
+
+    /** The document's words that the answers from here on are held against. */
+    void by(String sentence) {
+        words = " (by: " + sentence + ")";
+    }
 
     void due(String call, int want, int got) {
         asked++;
         if (got != want) {
             wrong++;
-            System.out.println(call + " answered " + got + ", due is " + want);
+            System.out.println(call + " answered " + got + ", due is " + want + words);
         }
     }
 
